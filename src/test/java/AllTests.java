@@ -1,0 +1,20 @@
+/** Every test of the project. */
+public final class AllTests {
+    private AllTests() {
+    }
+
+    public static void main(String[] args) {
+        Checks checks = new Checks();
+        FaceTests.all(checks);
+        MakingTests.all(checks);
+        HappeningTests.all(checks);
+        TellingTests.all(checks);
+        ListeningTests.all(checks);
+        SleepTests.all(checks);
+        ThrowingTests.all(checks);
+        ModelTests.all(checks);
+        if (!checks.close()) {
+            System.exit(1);
+        }
+    }
+}

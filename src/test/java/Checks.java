@@ -1,0 +1,65 @@
+/** Counts tests; a test fails if one of its checks does not hold or if it throws. */
+final class Checks {
+    interface Body {
+        void go();
+    }
+
+    private int passed = 0;
+    private int failed = 0;
+    private boolean holds = true;
+    private String test = "";
+
+    void test(String name, Body body) {
+        test = name;
+        holds = true;
+        try {
+            body.go();
+        } catch (RuntimeException e) {
+            report("threw " + e);
+        }
+        if (holds) {
+            passed++;
+        } else {
+            failed++;
+        }
+    }
+
+    void equal(String what, long due, long got) {
+        if (due != got) {
+            report(what + " answered " + got + ", due is " + due);
+        }
+    }
+
+    void equal(String what, String due, String got) {
+        if (!due.equals(got)) {
+            report(what + " answered\n  " + got + ", due is\n  " + due);
+        }
+    }
+
+    void argument(String what, Body call) {
+        equal(what, "IllegalArgumentException", thrownBy(call));
+    }
+
+    void state(String what, Body call) {
+        equal(what, "IllegalStateException", thrownBy(call));
+    }
+
+    static String thrownBy(Body call) {
+        try {
+            call.go();
+            return "nothing";
+        } catch (RuntimeException e) {
+            return e.getClass().getSimpleName();
+        }
+    }
+
+    private void report(String text) {
+        holds = false;
+        System.out.println(test + ": " + text);
+    }
+
+    boolean close() {
+        System.out.println(passed + " passed, " + failed + " failed");
+        return failed == 0;
+    }
+}
