@@ -297,11 +297,13 @@ public final class LinCluster {
 
         int checksumOf(long data) {
             int sum = enhanced ? pid : 0;
+            long left = data;
             for (int i = 0; i < length; i++) {
-                sum += byteOf(data, i);
+                sum += (int) (left & BYTE_MASK);
                 if (sum > 255) {
                     sum -= 255;
                 }
+                left >>>= 8;
             }
             return 255 - sum;
         }
@@ -546,7 +548,7 @@ public final class LinCluster {
         }
 
         boolean sendsToSleep() {
-            return frame != null && frame.id == SLEEP_ID && byteOf(bytes, 0) == 0;
+            return frame != null && frame.id == SLEEP_ID && (bytes & BYTE_MASK) == 0;
         }
     }
 
