@@ -251,6 +251,12 @@ public final class LinCluster {
         return id + 64 * p + 128 * q;
     }
 
+    /** The ID whose PID this character is, else NONE: 62 and 63 are no IDs, so right parity alone is not enough. */
+    private static int idOf(int character) {
+        int id = character & ID_MASK;
+        return id < IDS && character == pidOf(id) ? id : NONE;
+    }
+
     /** Byte i (0 .. 7) of eight that are kept in one long, byte 0 lowest. */
     private static int byteOf(long bytes, int i) {
         return (int) (bytes >>> 8 * i) & BYTE_MASK;
@@ -674,13 +680,13 @@ public final class LinCluster {
                 synced = true;
                 return;
             }
-            int id = value & ID_MASK;
-            if (!synced || value != pidOf(id)) {
+            int id = synced ? idOf(value) : NONE;
+            if (id < 0 || id >= frames.length) {
                 headersLost++;
                 at = WAITING;
                 return;
             }
-            answer(id < frames.length ? frames[id] : null);
+            answer(frames[id]);
         }
 
         private void answer(Frame frame) {

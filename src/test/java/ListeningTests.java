@@ -90,6 +90,21 @@ final class ListeningTests {
                 lost(c, Wire.characters(85, Wire.PIDS[7] ^ 1 << bit), 20);
             }
         });
+        c.test("a header: 254 and 191 have right parity, but 62 and 63 are no IDs", () -> {
+            lost(c, Wire.characters(85, 254), 20);
+            lost(c, Wire.characters(85, 191), 20);
+        });
+        c.test("a header: of all second characters 62 are PIDs", () -> {
+            for (int value = 0; value < 256; value++) {
+                LinCluster x = new LinCluster();
+                Wire.force(x, 0, "0".repeat(11) + "1" + Wire.characters(85, value));
+                x.run(32);
+                int due = Wire.isPid(value) ? 0 : 1;
+                for (int node = 0; node < 8; node++) {
+                    c.equal("lost at node " + node + " with " + value, due, x.told(node, 2));
+                }
+            }
+        });
         c.test("a header: the second tenth bit must be 1", () -> {
             lost(c, Wire.character(85) + Wire.character(Wire.PIDS[7]).substring(0, 9) + "0", 20);
         });
@@ -104,7 +119,7 @@ final class ListeningTests {
             c.equal("said", 1, x.told(2, 3));
         });
         c.test("a header: a right PID that no frame has is not lost", () -> {
-            for (int id = 0; id < 64; id++) {
+            for (int id = 0; id < 62; id++) {
                 LinCluster x = new LinCluster();
                 x.frame(7, 1, 2, false);
                 Wire.force(x, 0, Wire.header(id));

@@ -287,11 +287,11 @@ final class Model {
             return;
         }
         int id = 0;
-        while (id < 64 && (found.size() < 2 || Wire.PIDS[id] != found.get(1))) {
+        while (id < 62 && (found.size() < 2 || Wire.PIDS[id] != found.get(1))) {
             id++;
         }
         at[node] = 1;
-        if (id == 64) {
+        if (id == 62) {
             counts[node][0]++;
         } else if (isFrame(id) && frames[id][1] == node) {
             at[node] = 4;
