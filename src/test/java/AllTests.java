@@ -6,12 +6,15 @@ public final class AllTests {
     public static void main(String[] args) {
         Checks checks = new Checks();
         FaceTests.all(checks);
+        TermsTests.all(checks);
+        ScheduleTests.all(checks);
         MakingTests.all(checks);
         HappeningTests.all(checks);
         TellingTests.all(checks);
         ListeningTests.all(checks);
+        ResponseTests.all(checks);
         SleepTests.all(checks);
-        ThrowingTests.all(checks);
+        RefusalTests.all(checks);
         ModelTests.all(checks);
         if (!checks.close()) {
             System.exit(1);

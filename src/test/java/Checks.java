@@ -4,14 +4,18 @@ final class Checks {
         void go();
     }
 
+    private static final int MOST_REPORTS = 5;
+
     private int passed = 0;
     private int failed = 0;
     private boolean holds = true;
+    private int reports = 0;
     private String test = "";
 
     void test(String name, Body body) {
         test = name;
         holds = true;
+        reports = 0;
         try {
             body.go();
         } catch (RuntimeException e) {
@@ -36,6 +40,12 @@ final class Checks {
         }
     }
 
+    void holds(String what, boolean does) {
+        if (!does) {
+            report(what + " does not hold");
+        }
+    }
+
     void argument(String what, Body call) {
         equal(what, "IllegalArgumentException", thrownBy(call));
     }
@@ -55,7 +65,11 @@ final class Checks {
 
     private void report(String text) {
         holds = false;
-        System.out.println(test + ": " + text);
+        reports++;
+        // One broken promise may fail thousands of checks: the first ones tell enough.
+        if (reports <= MOST_REPORTS) {
+            System.out.println(test + ": " + text);
+        }
     }
 
     boolean close() {

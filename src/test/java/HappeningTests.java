@@ -95,6 +95,74 @@ final class HappeningTests {
                 c.equal("once only", 0, x.count(3));
             }
         });
+        c.test("promise 8: 0 behind TIME is the very next bit time, from any time on", () -> {
+            for (int begin = 0; begin < 200; begin += 33) {
+                LinCluster x = new LinCluster();
+                Wire.pass(x, begin);
+                x.disturb(0, 0);
+                c.equal("to come", 1, x.count(3));
+                x.run(1);
+                c.equal("came", 0, x.count(3) + x.line(1));
+            }
+        });
+        c.test("promise 8: anew to what it was already stays that", () -> {
+            for (int times = 1; times <= 4; times++) {
+                LinCluster x = new LinCluster();
+                x.wake(3);
+                for (int i = 0; i < times; i++) {
+                    x.disturb(2, 1);
+                    x.disturb(9, 0);
+                }
+                c.equal("told " + times + " times", 2, x.count(3));
+                c.equal("the line", "00100000" + "101", Wire.heard(x, 11));
+            }
+        });
+        c.test("promise 8: each bit, 1 and 0, by itself behind one that came long ago", () -> {
+            for (int gap = 4090; gap <= 4100; gap++) {
+                for (int old = 0; old < 2; old++) {
+                    LinCluster x = new LinCluster();
+                    x.disturb(3, old);
+                    Wire.pass(x, 3 + gap - 2);
+                    x.wake(3);
+                    x.disturb(2, 1);
+                    c.equal("1 behind " + old + ", " + gap, "00100", Wire.heard(x, 5));
+                    LinCluster y = new LinCluster();
+                    y.disturb(3, old);
+                    Wire.pass(y, 3 + gap - 2);
+                    y.disturb(2, 0);
+                    c.equal("0 behind " + old + ", " + gap, "11011", Wire.heard(y, 5));
+                }
+            }
+        });
+        c.test("promise 8: anew also much later, and as often as one likes", () -> {
+            LinCluster x = new LinCluster();
+            x.disturb(1000, 0);
+            Wire.pass(x, 400);
+            x.disturb(600, 1);
+            x.disturb(600, 0);
+            x.disturb(600, 0);
+            c.equal("one", 1, x.count(3));
+            Wire.pass(x, 600);
+            c.equal("not yet", 1, x.line(1));
+            x.run(1);
+            c.equal("now", 0, x.line(1) + x.count(3));
+        });
+        c.test("promise 8: behind a disturbing that came, the same place may be disturbed no more", () -> {
+            LinCluster x = new LinCluster();
+            x.disturb(0, 0);
+            x.run(1);
+            x.disturb(0, 0);
+            c.equal("the next one", "01", Wire.heard(x, 2));
+        });
+        c.test("promise 8: the 200th is taken, and each of 200 comes in its bit time", () -> {
+            LinCluster x = new LinCluster();
+            for (int i = 0; i < 200; i++) {
+                c.equal("to come", i, i < 3 || i > 197 ? x.count(3) : i);
+                x.disturb(i, i % 3 == 0 ? 0 : 1);
+            }
+            c.state("the 201st", () -> x.disturb(200, 0));
+            c.equal("the line", "011".repeat(66) + "01" + "1", Wire.heard(x, 201));
+        });
         c.test("promise 8: illegal arguments", () -> {
             LinCluster x = new LinCluster();
             c.argument("behind -1", () -> x.disturb(-1, 0));
@@ -189,13 +257,34 @@ final class HappeningTests {
             x.disturb(0, 0);
             c.equal("what will not come stays to come", 1, x.count(3));
         });
+        c.test("promise 10: just 200000 by one, and by 2000", () -> {
+            LinCluster x = new LinCluster();
+            Wire.pass(x, 199999);
+            c.state("two", () -> x.run(2));
+            c.equal("one", 200000, x.run(1));
+            LinCluster y = new LinCluster();
+            Wire.pass(y, 198000);
+            c.equal("2000", 200000, y.run(2000));
+            c.state("one more", () -> y.run(1));
+            c.equal("and it answers on", 200000, y.count(0));
+            c.equal("awake or not", 0, y.told(3, 0));
+        });
+        c.test("promise 10: one bit time is one bit time", () -> {
+            LinCluster x = new LinCluster();
+            x.disturb(1, 0);
+            c.equal("TIME", 1, x.run(1));
+            c.equal("the disturbing is to come", 1, x.count(3));
+            c.equal("TIME", 2, x.run(1));
+            c.equal("it came", 0, x.count(3) + x.line(1));
+        });
         c.test("promise 10: in parts or at once is the same", () -> {
             LinCluster x = busy();
             LinCluster y = busy();
             Wire.pass(x, 1500);
-            for (int i = 0; i < 1500; i++) {
-                y.run(1);
+            for (int i = 0; i < 100; i++) {
+                y.run(1 + 7 * (i % 2));
             }
+            Wire.until(y, 1500);
             c.equal("all", Wire.picture(x), Wire.picture(y));
         });
     }

@@ -105,6 +105,41 @@ final class MakingTests {
             c.equal("said wholly", 1, x.told(1, 3));
             c.equal("keeps its error", 1, x.told(1, 1));
         });
+        c.test("promise 2: anew it leaves other frames, their listeners and statuses", () -> {
+            LinCluster x = new LinCluster();
+            x.frame(8, 1, 1, false);
+            x.frame(9, 1, 1, false);
+            x.listen(3, 8, true);
+            x.write(8, 0, 6);
+            x.status(1, 8, 0, 0);
+            x.frame(9, 2, 1, false);
+            c.equal("byte", 6, x.byteAt(1, 8, 0));
+            x.slot(8, 60);
+            x.disturb(Wire.HEADER, 1);
+            x.run(120);
+            c.equal("its listener took its status", 7, x.byteAt(3, 8, 0));
+            c.equal("and its ERROR is over", 0, x.told(1, 1));
+        });
+        c.test("promise 2: anew with a shorter length its last bytes are gone", () -> {
+            LinCluster x = new LinCluster();
+            x.frame(9, 8, 1, false);
+            x.write(9, 7, 5);
+            x.status(1, 9, 7, 7);
+            x.frame(9, 7, 1, false);
+            c.argument("byte 7", () -> x.byteAt(1, 9, 7));
+            c.argument("a status there", () -> x.status(1, 9, 7, 7));
+            x.frame(9, 8, 1, false);
+            c.equal("byte 7 of the next", 0, x.byteAt(1, 9, 7));
+        });
+        c.test("promise 2: in time 0 behind slots, disturbings and a waking, too", () -> {
+            LinCluster x = new LinCluster();
+            x.frame(9, 1, 1, false);
+            x.slot(9, 60);
+            x.disturb(0, 1);
+            x.wake(4);
+            x.frame(10, 1, 1, false);
+            c.equal("there it is", Wire.PIDS[10] + 256 * 255, x.checks(10));
+        });
         c.test("promise 2: anew its slots stay, with its new publisher", () -> {
             LinCluster x = new LinCluster();
             x.frame(9, 1, 1, true);
@@ -155,6 +190,51 @@ final class MakingTests {
             c.equal("takings anew", 0, x.taken(2, 5));
             c.equal("byte anew", 0, x.byteAt(2, 5, 0));
             c.equal("among all", 1, x.told(2, 4));
+        });
+        c.test("promise 3: off where it did not listen changes nothing", () -> {
+            LinCluster x = taken();
+            c.equal("did not", 0, x.listen(4, 5, false) ? 1 : 0);
+            c.equal("the other's takings", 1, x.taken(2, 5));
+            c.argument("it has nothing", () -> x.taken(4, 5));
+        });
+        c.test("promise 3: off while it takes and the response is wrong: an error among all", () -> {
+            LinCluster x = taken();
+            Wire.until(x, 60 + Wire.HEADER + 3);
+            x.listen(2, 5, false);
+            x.disturb(6, 0);
+            Wire.until(x, 119);
+            c.equal("an error", 11, 10 * x.told(2, 1) + x.told(2, 5));
+            c.equal("not taken", 1, x.told(2, 4));
+        });
+        c.test("promise 3: off just with the last bit to come keeps nothing, behind it nothing is left", () -> {
+            LinCluster x = taken();
+            Wire.until(x, 60 + Wire.HEADER + 19);
+            x.listen(2, 5, false);
+            x.run(1);
+            c.equal("among all", 2, x.told(2, 4));
+            x.listen(2, 5, true);
+            c.equal("nothing kept", 0, x.taken(2, 5) + x.byteAt(2, 5, 0));
+        });
+        c.test("promise 3: all seven others may listen, and one that ends leaves the rest", () -> {
+            LinCluster x = new LinCluster();
+            x.frame(5, 1, 3, true);
+            x.write(5, 0, 170);
+            x.slot(5, 60);
+            for (int node = 0; node < 8; node++) {
+                if (node != 3) {
+                    x.listen(node, 5, true);
+                }
+            }
+            x.run(60);
+            x.listen(4, 5, false);
+            x.run(60);
+            for (int node = 0; node < 8; node++) {
+                if (node != 3 && node != 4) {
+                    c.equal("takings of " + node, 2, x.taken(node, 5));
+                }
+            }
+            c.argument("node 4", () -> x.taken(4, 5));
+            c.equal("node 4 among all", 1, x.told(4, 4));
         });
         c.test("promise 3: off while it takes: counts among all, keeps nothing", () -> {
             LinCluster x = taken();
@@ -342,6 +422,24 @@ final class MakingTests {
             }
             c.state("a 17th", () -> x.slot(7, 50));
             c.argument("illegal argument first", () -> x.slot(7, 49));
+        });
+        c.test("promise 6: the 16th is one like the others, the 17th is not there", () -> {
+            LinCluster x = new LinCluster();
+            x.frame(7, 1, 2, true);
+            x.frame(8, 1, 3, true);
+            for (int i = 0; i < 15; i++) {
+                x.slot(7, 60);
+            }
+            c.equal("the 16th", 15, x.slot(7, 70));
+            c.state("the 17th", () -> x.slot(8, 80));
+            Wire.until(x, 15 * 60 + 1);
+            c.equal("at hand", 15, x.count(1));
+            Wire.until(x, 15 * 60 + 70 + 1);
+            c.equal("then 0 again", 0, x.count(1));
+            c.equal("begun", 17, x.count(2));
+            c.equal("7 was said in all 16", 16, x.told(2, 3));
+            Wire.until(x, 2 * (15 * 60 + 70));
+            c.equal("8 never", 0, x.told(3, 3));
         });
         c.test("promise 6: illegal arguments and time", () -> {
             LinCluster x = new LinCluster();

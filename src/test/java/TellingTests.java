@@ -42,6 +42,33 @@ final class TellingTests {
             c.argument("byte 3 at the publisher", () -> x.byteAt(5, 34, 3));
             c.argument("neither", () -> x.byteAt(1, 33, 0));
         });
+        c.test("promise 11: who listened no more has nothing, at its publisher it stands all the time", () -> {
+            LinCluster x = eight();
+            x.run(130);
+            x.listen(6, 33, false);
+            c.argument("byteAt", () -> x.byteAt(6, 33, 0));
+            c.argument("taken", () -> x.taken(6, 33));
+            c.equal("the other listener", 7, x.byteAt(0, 33, 0));
+            c.equal("the publisher", 7, x.byteAt(5, 33, 0));
+        });
+        c.test("promise 11: at its publisher without the status bit that it says", () -> {
+            LinCluster x = eight();
+            x.status(5, 33, 0, 7);
+            x.disturb(Wire.HEADER, 1);
+            x.run(260);
+            c.equal("taken with it", 135, x.byteAt(6, 33, 0));
+            c.equal("stands without", 7, x.byteAt(5, 33, 0));
+        });
+        c.test("promise 11: eight bytes of 255", () -> {
+            LinCluster x = eight();
+            for (int i = 0; i < 8; i++) {
+                x.write(33, i, 255);
+            }
+            x.run(130);
+            for (int i = 0; i < 8; i++) {
+                c.equal("byte " + i, 510, x.byteAt(6, 33, i) + x.byteAt(5, 33, i));
+            }
+        });
         c.test("promise 12: how often", () -> {
             LinCluster x = eight();
             c.equal("at first", 0, x.taken(6, 33));
@@ -169,6 +196,24 @@ final class TellingTests {
                 c.equal("begun till then", i + 1, x.count(2));
             }
         });
+        c.test("promise 14: no slot at hand before the first, asleep, and ahead of the next waking's slot", () -> {
+            LinCluster x = new LinCluster();
+            x.frame(60, 1, 0, false);
+            c.equal("without one", LinCluster.NONE, x.count(1));
+            x.slot(60, 60);
+            c.equal("not begun", LinCluster.NONE, x.count(1));
+            x.run(Wire.HEADER + 19);
+            c.equal("at hand", 0, x.count(1));
+            x.run(1);
+            c.equal("asleep", LinCluster.NONE, x.count(1));
+            x.wake(0);
+            x.run(9);
+            c.equal("awake", LinCluster.NONE, x.count(1));
+            x.run(50);
+            c.equal("50 bit times passed", LinCluster.NONE, x.count(1));
+            x.run(1);
+            c.equal("at hand again", 0, x.count(1));
+        });
         c.test("promise 14: TIME, disturbings and illegal arguments", () -> {
             LinCluster x = new LinCluster();
             x.run(7);
@@ -186,16 +231,34 @@ final class TellingTests {
 
     private static void line(Checks c) {
         c.test("promise 15: 64 bits back, 1 before all", () -> {
-            LinCluster x = new LinCluster();
-            for (int back = 1; back <= 64; back++) {
-                c.equal("before all", 1, x.line(back));
-            }
-            x.disturb(0, 0);
-            for (int time = 1; time <= 65; time++) {
-                x.run(1);
+            for (int time = 0; time <= 65; time++) {
+                LinCluster x = new LinCluster();
+                x.disturb(0, 0);
+                Wire.pass(x, time);
                 for (int back = 1; back <= 64; back++) {
                     c.equal("at " + time + " back " + back, back == time ? 0 : 1, x.line(back));
                 }
+            }
+        });
+        c.test("promise 15: the nearest and the farthest bit", () -> {
+            LinCluster x = new LinCluster();
+            x.disturb(0, 0);
+            x.disturb(63, 0);
+            x.run(64);
+            c.equal("1 back", 0, x.line(1));
+            c.equal("2 back", 1, x.line(2));
+            c.equal("63 back", 1, x.line(63));
+            c.equal("64 back", 0, x.line(64));
+            x.run(1);
+            c.equal("1 back, later", 1, x.line(1));
+            c.equal("64 back, later", 1, x.line(64));
+        });
+        c.test("promise 15: 64 zeros and no more", () -> {
+            LinCluster x = new LinCluster();
+            Wire.force(x, 0, "0".repeat(64));
+            x.run(64);
+            for (int back = 1; back <= 64; back++) {
+                c.equal("back " + back, 0, x.line(back));
             }
         });
         c.test("promise 15: illegal arguments", () -> {
