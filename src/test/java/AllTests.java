@@ -5,6 +5,7 @@ public final class AllTests {
 
     public static void main(String[] args) {
         Checks checks = new Checks();
+        ReadmeTests.all(checks);
         FaceTests.all(checks);
         TermsTests.all(checks);
         ScheduleTests.all(checks);
